@@ -2,6 +2,7 @@
 public final class FuelCostKeyTest extends Due {
     public static void main(String[] args) {
         fuel();
+        fuelHasRoom();
         using();
         usingIsExact();
         key();
@@ -22,6 +23,19 @@ public final class FuelCostKeyTest extends Due {
         is(1_000_001, () -> x.fuel(0, 1_000_000));
         is(5, () -> x.fuel(1, 5));
         is(1_000_003, () -> x.fuel(0, 2));
+    }
+
+    /** It takes more than the 512 calls that are promised, but the sum should not run over there either. */
+    private static void fuelHasRoom() {
+        VehicleChecks x = withVehicles(0, false);
+        for (int i = 1; i < 1000; i++) {
+            x.fuel(0, 1_000_000);
+        }
+        is(999_000_001, () -> x.fuel(0, 1));
+        refuses(ROOM, () -> x.fuel(0, 1_000_000));
+        is(1_000_000_000, () -> x.fuel(0, 999_999));
+        refuses(ROOM, () -> x.fuel(0, 1));
+        refuses(RANGE, () -> x.fuel(0, 0));
     }
 
     private static void using() {

@@ -6,6 +6,7 @@ public final class RunTest extends Due {
         useRefuses();
         runsByGrades();
         failingAndSkippedAreTwoReasons();
+        gradesOfSeveralItemsAddUp();
         reasonsInTheirOrder();
         reasonRefuses();
         off();
@@ -110,6 +111,34 @@ public final class RunTest extends Due {
         is(20006, () -> x.reason(0, 0));
         is(20106, () -> x.reason(0, 1));
         is(-1, () -> x.reason(0, 2));
+    }
+
+    private static void gradesOfSeveralItemsAddUp() {
+        for (int mild = 0; mild < 3; mild++) {
+            VehicleChecks x = withVehicles(0, false, false);
+            for (int item = 0; item < 3; item++) {
+                x.list(0, item, 0, 0, item == mild ? 1 : 2, 1);
+            }
+            for (int item = 0; item < 3; item++) {
+                x.answer(0, item, item == 1 ? 0 : 1, 0);
+            }
+            boolean oneFails = mild != 1;
+            is(oneFails, () -> x.runs(0));
+            is(0, () -> x.tick(1));
+            is(false, () -> x.runs(1));
+        }
+        VehicleChecks y = withVehicles(0, false);
+        y.list(0, 0, 0, 0, 2, 0);
+        y.list(0, 1, 0, 0, 2, 0);
+        y.list(0, 2, 0, 0, 1, 0);
+        is(true, () -> y.use(0, 1));
+        is(false, () -> y.runs(0));
+        y.answer(0, 0, 1, 0);
+        is(false, () -> y.runs(0));
+        y.answer(0, 1, 0, 0);
+        is(true, () -> y.runs(0));
+        is(20000, () -> y.reason(0, 0));
+        is(10102, () -> y.reason(0, 1));
     }
 
     private static void reasonsInTheirOrder() {

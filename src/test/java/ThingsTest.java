@@ -6,6 +6,7 @@ public final class ThingsTest extends Due {
         swap();
         spareIsTheOneWithTheFewestKilometres();
         spareIsOfItsKindSpareAndRuns();
+        spareOfTwenty();
         spareLacks();
         end();
     }
@@ -134,6 +135,20 @@ public final class ThingsTest extends Due {
         x.off(0, true, 0, 1);
         is(3, () -> x.spare(0));
         is(-1, () -> x.spare(3));
+    }
+
+    private static void spareOfTwenty() {
+        VehicleChecks x = new VehicleChecks();
+        for (int v = 0; v < 20; v++) {
+            x.vehicle(0, true);
+        }
+        for (int v = 0; v < 19; v++) {
+            x.use(v, 20 - v);
+        }
+        is(19, () -> x.spare(0));
+        is(18, () -> x.spare(19));
+        x.use(19, 20);
+        is(18, () -> x.spare(0));
     }
 
     private static void spareLacks() {
