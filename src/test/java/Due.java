@@ -1,4 +1,5 @@
 import java.util.function.BooleanSupplier;
+import java.util.function.IntConsumer;
 import java.util.function.LongSupplier;
 
 /** What the tests share: each compares a call with what is due and tells the line of the test that is wrong. */
@@ -40,12 +41,35 @@ abstract class Due {
         compare(want.getName(), outcome(call));
     }
 
+    /** Each of the wrong numbers, and the two that lie farthest out, where a sum or a product would wrap around. */
+    static void refusesEach(Class<? extends RuntimeException> want, IntConsumer call, int... wrongOnes) {
+        for (int one : wrongOnes) {
+            refuses(want, () -> call.accept(one));
+        }
+        refuses(want, () -> call.accept(Integer.MIN_VALUE));
+        refuses(want, () -> call.accept(Integer.MAX_VALUE));
+    }
+
+    static void doesEach(IntConsumer call, int... rightOnes) {
+        for (int one : rightOnes) {
+            does(() -> call.accept(one));
+        }
+    }
+
     static void compare(String want, String got) {
         checks++;
         if (!want.equals(got)) {
             wrong++;
             System.out.println(place() + ": answered " + got + ", due is " + want);
         }
+    }
+
+    static int checksSoFar() {
+        return checks;
+    }
+
+    static int wrongSoFar() {
+        return wrong;
     }
 
     static void end() {
