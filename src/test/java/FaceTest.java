@@ -11,8 +11,9 @@ import java.util.TreeSet;
 import java.util.regex.Matcher;
 import java.util.regex.Pattern;
 
-/** The document's face and nothing beside it, and what can be seen of LANGUAGE.md's rules in the text. */
+/** The document's face and nothing beside it. */
 public final class FaceTest extends Due {
+    private static final Path DOCUMENT = Path.of("../shared/DOC.md");
     private static final String[] FACE = {
         "int vehicle(int,boolean) UNKNOWN ROOM",
         "void list(int,int,int,int,int,int) UNKNOWN RANGE",
@@ -38,17 +39,11 @@ public final class FaceTest extends Due {
         "int vehicleAt(int,int) UNKNOWN",
     };
 
-    private static final String[] NOT_IN_THE_TEXT = {
-        "\\bimport\\b", "\\bpackage\\b", "->", "::", "\\bcatch\\b", "\\bfinally\\b", "\\bsynchronized\\b",
-        "\\bassert\\b", "\\w+Exact\\b", "\\bSystem\\.(?!arraycopy)", "\\bThread\\b", "\\bprotected\\b",
-        "static\\s*\\{", "\\bjava\\.", "\\bObject\\b", "\\bvar\\b",
-    };
-
     public static void main(String[] args) throws IOException {
         theClass();
         theMethods();
         theNestedClasses();
-        theText();
+        theFaceOfTheDocument();
         end();
     }
 
@@ -109,12 +104,24 @@ public final class FaceTest extends Due {
         }
     }
 
-    private static void theText() throws IOException {
-        String text = Files.readString(Path.of("src/main/java/VehicleChecks.java"));
-        String code = text.replaceAll("(?s)/\\*.*?\\*/", " ").replaceAll("//[^\n]*", " ");
-        for (String never : NOT_IN_THE_TEXT) {
-            Matcher found = Pattern.compile(never).matcher(code);
-            compare("no " + never, found.find() ? "there is '" + found.group() + "'" : "no " + never);
+    /** Line by line in the text of the class, for the compiled class does not tell the names of parameters. */
+    private static void theFaceOfTheDocument() throws IOException {
+        if (!Files.exists(DOCUMENT)) {
+            System.out.println("there is no " + DOCUMENT + ": the face is not compared with it");
+            return;
         }
+        String text = Files.readString(Path.of("src/main/java/VehicleChecks.java")).replaceAll("\\s+", " ");
+        Matcher face = Pattern.compile("(?s)## The public face\\s+```java\n(.*?)```").matcher(Files.readString(DOCUMENT));
+        if (!face.find()) {
+            compare("the document's face", "nothing");
+            return;
+        }
+        int members = 0;
+        for (String line : face.group(1).split("\n")) {
+            String head = line.trim().replaceAll(";$", " {");
+            compare(head, text.contains(head) ? head : "nothing");
+            members += line.endsWith(";") ? 1 : 0;
+        }
+        compare((FACE.length + 1) + " members", members + " members");
     }
 }
